@@ -263,8 +263,8 @@ public final class SunCourt {
         if (fault != FINE) {
             return refuseAsTold(fault);
         }
-        int without = Integer.bitCount(litMinutes(window, day));
-        return without - hoursWith(window, day, block, blocks.topOf(block));
+        int lit = litMinutes(window, day);
+        return Integer.bitCount(lit) - hoursWith(window, day, lit, block, blocks.topOf(block));
     }
 
     public int high(int block) {
@@ -340,7 +340,7 @@ public final class SunCourt {
             case 0: return windows.side[window];
             case 1: return windows.cellsOf(window);
             case 2: return windows.right[window];
-            case 3: return isLawful(window) ? 1 : 0;
+            case 3: return firstFall(window) == NONE ? 1 : 0;
             case 4: return windows.isKept(window) ? 1 : 0;
             case 5: return firstFall(window);
             default: return refuseAsTold(OTHER);
@@ -442,9 +442,8 @@ public final class SunCourt {
         return bits;
     }
 
-    /** HOURS with a PLANNED BLOCK there: it lights no MINUTE, so only the LIT ones are looked at. */
-    private int hoursWith(int window, int day, int planned, int top) {
-        int lit = litMinutes(window, day);
+    /** HOURS with a PLANNED BLOCK there: it lights no MINUTE, so only those LIT without it count. */
+    private int hoursWith(int window, int day, int lit, int planned, int top) {
         int hours = 0;
         for (int minute = 0; minute < sky.minutes[day]; minute++) {
             boolean wasLit = (lit >> minute & 1) == 1;
@@ -455,10 +454,7 @@ public final class SunCourt {
         return hours;
     }
 
-    private boolean isLawful(int window) {
-        return firstFall(window) == NONE;
-    }
-
+    /** The first DAY on which a WINDOW falls; NONE if it is LAWFUL. */
     private int firstFall(int window) {
         for (int day = 0; day < DAYS; day++) {
             int least = leastHours[day];
@@ -472,8 +468,11 @@ public final class SunCourt {
     private int firstFallWith(int window, int planned, int top) {
         for (int day = 0; day < DAYS; day++) {
             int least = leastHours[day];
-            if (least > 0 && hoursWith(window, day, planned, top) < least) {
-                return day;
+            if (least > 0) {
+                int lit = litMinutes(window, day);
+                if (hoursWith(window, day, lit, planned, top) < least) {
+                    return day;
+                }
             }
         }
         return NONE;
@@ -494,7 +493,7 @@ public final class SunCourt {
     private int lawfulWindows() {
         int lawful = 0;
         for (int window = 0; window < windows.size; window++) {
-            if (isLawful(window)) {
+            if (firstFall(window) == NONE) {
                 lawful++;
             }
         }
@@ -507,7 +506,8 @@ public final class SunCourt {
             forgetLight();
         }
         for (int window = 0; window < windows.size; window++) {
-            windows.right[window] = isLawful(window) ? windows.right[window] + 1 : 0;
+            boolean lawful = firstFall(window) == NONE;
+            windows.right[window] = lawful ? windows.right[window] + 1 : 0;
         }
     }
 
